@@ -1,0 +1,124 @@
+import java.util.ArrayList;
+import java.util.List;
+
+/** Counts the answers of one test that are not as due, and prints each. */
+final class Check {
+    static final Class<? extends Exception> STATE = IllegalStateException.class;
+    static final Class<? extends Exception> INDEX = IndexOutOfBoundsException.class;
+    static final Class<? extends Exception> ARGUMENT = IllegalArgumentException.class;
+    static final Class<? extends Exception> ELEMENT = java.util.NoSuchElementException.class;
+
+    /** Numbers that are no player of any game. */
+    static final int[] NO_PLAYERS = {-1, -2, 8, 9, 31, 32, 33, 64, Integer.MAX_VALUE, Integer.MIN_VALUE};
+
+    interface Call {
+        Object answer();
+    }
+
+    private final String name;
+    private int asked;
+    private int wrong;
+
+    Check(String name) {
+        this.name = name;
+    }
+
+    void equal(String what, Object got, Object due) {
+        asked++;
+        if (!due.equals(got)) {
+            wrong++;
+            System.out.println(name + ": " + what + " answered " + got + ", due is " + due);
+        }
+    }
+
+    /** The call throws just this, and nothing that can be seen of the game changes. */
+    void refused(WitchTrial trial, String what, Class<? extends Exception> due, Call call) {
+        List<Object> before = seen(trial);
+        equal(what, outcome(call), due.getName());
+        equal("what is seen after " + what, seen(trial), before);
+    }
+
+    void finish() {
+        System.out.println(name + ": " + asked + " answers, " + wrong + " not as due");
+        if (wrong != 0) {
+            System.exit(1);
+        }
+    }
+
+    /** The answer, or the name of the exception. */
+    static Object outcome(Call call) {
+        try {
+            return call.answer();
+        } catch (RuntimeException e) {
+            return e.getClass().getName();
+        }
+    }
+
+    /** All that the object tells without being changed, for the players 0 to 8 and for NONE. */
+    static List<Object> seen(WitchTrial trial) {
+        List<Object> seen = new ArrayList<>();
+        seen.add(trial.phase());
+        seen.add(outcome(trial::day));
+        seen.add(outcome(trial::alive));
+        seen.add(outcome(trial::lookedAt));
+        seen.add(outcome(trial::bestLook));
+        for (int p = WitchTrial.NONE; p <= 8; p++) {
+            int viewer = p;
+            seen.add(outcome(() -> trial.votesFor(viewer)));
+            seen.add(outcome(() -> trial.worlds(viewer)));
+            seen.add(outcome(() -> trial.sureWitches(viewer)));
+            seen.add(outcome(() -> trial.sureHonest(viewer)));
+            seen.add(outcome(() -> trial.witchSets(viewer)));
+            seen.add(outcome(() -> trial.suspect(viewer)));
+            for (int other = 0; other < 8; other++) {
+                for (int role = 0; role < 4; role++) {
+                    int player = other;
+                    int its = role;
+                    seen.add(outcome(() -> trial.worldsWith(viewer, player, its)));
+                }
+            }
+        }
+        return seen;
+    }
+
+    /** A game of six: witches 0 and 1, seer 2, guard 3, villagers 4 and 5. */
+    static WitchTrial six() {
+        WitchTrial trial = new WitchTrial();
+        trial.start(6, 3, 2, 3);
+        return trial;
+    }
+
+    /** A game of eight: witches 0, 1 and 2, seer 3, guard 4, villagers 5, 6 and 7. */
+    static WitchTrial eight() {
+        WitchTrial trial = new WitchTrial();
+        trial.start(8, 7, 3, 4);
+        return trial;
+    }
+
+    /** By day: lets the player be hanged by its own vote. */
+    static void hang(WitchTrial trial, int player) {
+        trial.vote(player, player);
+        trial.closeVote();
+    }
+
+    /** By day: goes on to the next day, nobody hanged and the player killed at night. */
+    static void kill(WitchTrial trial, int player) {
+        trial.closeVote();
+        trial.attack(player);
+        trial.endNight();
+    }
+
+    /** By day: goes on to the next day, the seer having looked at the player. */
+    static void lookAt(WitchTrial trial, int player) {
+        trial.closeVote();
+        trial.look(player);
+        trial.endNight();
+    }
+
+    /** By day: goes on to the next day, the guard having protected the player. */
+    static void guard(WitchTrial trial, int player) {
+        trial.closeVote();
+        trial.protect(player);
+        trial.endNight();
+    }
+}
