@@ -452,7 +452,8 @@ public final class WitchTrial {
      * bits of the true world that every viewer knows, and all questions name the known bits.
      */
     private static final class Book {
-        private static final int MOST_WORLDS = 1120;
+        // Eight players with three witches: 56 sets of witches, then 5 for the seer, 4 for the guard.
+        private static final int MOST_WORLDS = 56 * 5 * 4;
         private static final int NO_WORLD = 0;
 
         // The worlds stand in front, in the order of their sets of witches; then comes NO_WORLD.

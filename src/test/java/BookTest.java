@@ -7,6 +7,7 @@ public final class BookTest {
 
     public static void main(String[] args) {
         worldsOfViewers();
+        oneWorldIsLeft();
         theSeerKnowsWhatItSaw();
         theDeadKnowTheSame();
         rolesOfTheDeadAreTold();
@@ -35,6 +36,37 @@ public final class BookTest {
         check.equal("witchSets(NONE) after a claim", t.witchSets(NONE), 21 + 15);
         check.equal("witchSets(5) after it", t.witchSets(5), 15);
         check.equal("worlds(5) after it", t.worlds(5), 15 * 4 * 3);
+    }
+
+    // The lowest of all worlds of four players, and the highest.
+    private static void oneWorldIsLeft() {
+        WitchTrial t = new WitchTrial();
+        t.start(4, 1, 1, 2);
+        check.equal("witchSets(NONE) with one witch of four", t.witchSets(NONE), 4);
+        t.claim(3, WitchTrial.IS_WITCH, 0);
+        t.claim(3, WitchTrial.IS_SEER, 1);
+        t.claim(3, WitchTrial.IS_GUARD, 2);
+        check.equal("claim(2, IS_HONEST, 3)", t.claim(2, WitchTrial.IS_HONEST, 3), 1);
+        isTheOnlyWorld(t, 1, 1, 2);
+        t.start(4, 8, 2, 1);
+        t.claim(0, WitchTrial.IS_WITCH, 3);
+        t.claim(0, WitchTrial.IS_SEER, 2);
+        t.claim(0, WitchTrial.IS_GUARD, 1);
+        check.equal("claim(1, IS_HONEST, 0)", t.claim(1, WitchTrial.IS_HONEST, 0), 1);
+        isTheOnlyWorld(t, 8, 2, 1);
+    }
+
+    private static void isTheOnlyWorld(WitchTrial t, int witches, int seer, int guard) {
+        for (int viewer = NONE; viewer < 4; viewer++) {
+            check.equal("worlds of one", t.worlds(viewer), 1);
+            check.equal("witchSets of one world", t.witchSets(viewer), 1);
+            check.equal("sureWitches of one world", t.sureWitches(viewer), witches);
+            check.equal("sureHonest of one world", t.sureHonest(viewer), 15 - witches);
+            check.equal("isPossible, the only world", t.isPossible(viewer, witches, seer, guard), true);
+            check.equal("isPossible, another world", t.isPossible(viewer, witches, guard, seer), false);
+            check.equal("worldsWith the seer of one world", t.worldsWith(viewer, seer, SEER), 1);
+        }
+        check.equal("bestLook() with one world", t.bestLook(), seer == 0 ? 1 : 0);
     }
 
     private static void theSeerKnowsWhatItSaw() {
@@ -124,7 +156,10 @@ public final class BookTest {
         check.equal("sureHonest(NONE) at last", t.sureHonest(NONE), 60);
         check.equal("witchSets(NONE) at last", t.witchSets(NONE), 1);
         WitchTrial u = Check.eight();
-        check.equal("sureHonest(0) of eight", u.sureHonest(0), 248);
+        check.equal("sureHonest(0) of eight, a witch", u.sureHonest(0), 248);
+        u.start(8, 224, 0, 1);
+        check.equal("sureHonest(0) of eight, the seer", u.sureHonest(0), 1);
+        check.equal("sureWitches(7) of eight, a witch", u.sureWitches(7), 224);
     }
 
     private static void suspects() {

@@ -137,7 +137,9 @@ public final class NightTest {
         check.equal("the choice stands", t.look(0), 5);
         t.endNight();
         check.equal("lookedAt()", t.lookedAt(), 1);
+        t.start(8, 7, 3, 4);
         Check.hang(t, 3);
+        check.equal("phase() with the seer hanged", t.phase(), WitchTrial.NIGHT);
         for (int p : new int[] {-1, 0, 1, 3, 7, 8}) {
             check.refused(t, "look(" + p + ") with the seer dead", Check.STATE, () -> t.look(p));
         }
@@ -170,11 +172,18 @@ public final class NightTest {
         check.equal("endNight() with the guard guarding itself", t.endNight(), NONE);
         t.closeVote();
         check.equal("endNight(): the last night's attack is forgotten", t.endNight(), NONE);
+        t.start(4, 8, 1, 2);
+        t.closeVote();
+        t.attack(0);
+        check.equal("endNight() with the player 0 attacked", t.endNight(), 0);
+        check.equal("alive()", t.alive(), 14);
+        check.equal("phase()", t.phase(), WitchTrial.DAY);
         check.equal("lookedAt() without a look", t.lookedAt(), 0);
     }
 
     private static void theSeerLooks() {
-        WitchTrial t = Check.eight();
+        WitchTrial t = new WitchTrial();
+        t.start(8, 1, 3, 4);
         Check.lookAt(t, 0);
         check.equal("lookedAt()", t.lookedAt(), 1);
         t.closeVote();
@@ -198,6 +207,7 @@ public final class NightTest {
         t.look(6);
         t.attack(3);
         check.equal("endNight() with the seer killed", t.endNight(), 3);
+        check.equal("phase()", t.phase(), WitchTrial.DAY);
         check.equal("lookedAt(): it does not look", t.lookedAt(), 129 + 32);
     }
 
