@@ -15,7 +15,13 @@ final class Check {
         Object answer();
     }
 
+    interface Ask {
+        Object of(WitchTrial trial);
+    }
+
     private final String name;
+    private String sentence = "";
+    private int sentences;
     private int asked;
     private int wrong;
 
@@ -27,8 +33,35 @@ final class Check {
         asked++;
         if (!due.equals(got)) {
             wrong++;
-            System.out.println(name + ": " + what + " answered " + got + ", due is " + due);
+            System.out.println(name + ": " + sentence + what + " answered " + got + ", due is " + due);
         }
+    }
+
+    /** Names the sentence of the document that the next answers are about. */
+    void sentence(String text) {
+        sentences++;
+        sentence = text + ": ";
+        System.out.println("  " + text);
+    }
+
+    /** In the scene the call answers this. */
+    void answers(Scene scene, String what, Object due, Ask call) {
+        WitchTrial trial = scene.make();
+        equal(what + ", " + scene.name, outcome(() -> call.of(trial)), due);
+    }
+
+    /**
+     * In the scene the call throws just this, and afterwards all is as in the same scene without
+     * the call: what can be seen, and what was chosen and can only be seen by playing on.
+     */
+    void refuses(Scene scene, String what, Class<? extends Exception> due, Ask call) {
+        String where = what + ", " + scene.name;
+        WitchTrial seen = scene.make();
+        equal(where, outcome(() -> call.of(seen)), due.getName());
+        equal("what is seen after " + where, seen(seen), scene.view());
+        WitchTrial left = scene.make();
+        equal(where, outcome(() -> call.of(left)), due.getName());
+        equal("what comes after " + where, farewell(left), scene.farewell());
     }
 
     /** The call throws just this, and nothing that can be seen of the game changes. */
@@ -39,7 +72,8 @@ final class Check {
     }
 
     void finish() {
-        System.out.println(name + ": " + asked + " answers, " + wrong + " not as due");
+        String told = sentences == 0 ? "" : sentences + " sentences, ";
+        System.out.println(name + ": " + told + asked + " answers, " + wrong + " not as due");
         if (wrong != 0) {
             System.exit(1);
         }
@@ -79,6 +113,44 @@ final class Check {
             }
         }
         return seen;
+    }
+
+    /**
+     * Plays the object on, so that it shows what it otherwise does not tell: who voted for whom (by
+     * votes that change), whom the guard protected in the night before, and the night's choices.
+     */
+    static List<Object> farewell(WitchTrial trial) {
+        List<Object> told = new ArrayList<>();
+        for (int p = 0; p < 8; p++) {
+            int player = p;
+            told.add(outcome(() -> trial.vote(player, player)));
+            for (int q = 0; q < 8; q++) {
+                int other = q;
+                told.add(outcome(() -> trial.votesFor(other)));
+            }
+        }
+        told.add(outcome(trial::closeVote));
+        for (int p = 0; p < 8; p++) {
+            int player = p;
+            told.add(outcome(() -> trial.protect(player)));
+            told.add(outcome(() -> trial.attack(player)));
+            told.add(outcome(() -> trial.look(player)));
+        }
+        told.add(outcome(trial::endNight));
+        told.add(trial.phase());
+        told.add(outcome(trial::day));
+        told.add(outcome(trial::alive));
+        told.add(outcome(trial::lookedAt));
+        return told;
+    }
+
+    /** How many worlds a game has at its beginning. */
+    static int worlds(int players, int witches) {
+        int sets = 1;
+        for (int i = 0; i < witches; i++) {
+            sets = sets * (players - i) / (i + 1);
+        }
+        return sets * (players - witches) * (players - witches - 1);
     }
 
     /** A game of six: witches 0 and 1, seer 2, guard 3, villagers 4 and 5. */
