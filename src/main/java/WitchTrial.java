@@ -501,7 +501,7 @@ public final class WitchTrial {
             for (int i = 0; i < pages.length && pages[i] != NO_WORLD; i++) {
                 int world = pages[i];
                 pages[i] = NO_WORLD;
-                if (agreesWithClaim(world, player, bits, said)) {
+                if (agreesWithClaim(world, player, bits, said) && kept < pages.length) {
                     pages[kept] = world;
                     kept++;
                 }

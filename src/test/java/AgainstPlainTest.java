@@ -29,7 +29,7 @@ public final class AgainstPlainTest {
         if (run % 10 != 0) {
             start();
         }
-        for (int call = 0; call < CALLS; call++) {
+        for (int call = 1; call < CALLS; call++) {
             int kind = random.nextInt(100);
             if (kind < 1) {
                 start();

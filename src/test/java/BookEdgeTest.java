@@ -188,6 +188,11 @@ public final class BookEdgeTest {
         check.answers(Scene.GUARD_DEAD, "sureHonest(NONE)", 16, t -> t.sureHonest(NONE));
         check.sentence("P19: all the honest, when all witches are dead");
         check.answers(Scene.VILLAGE_WON, "sureHonest(NONE)", 60, t -> t.sureHonest(NONE));
+        check.sentence("P19: all the honest, when one world is left");
+        check.answers(Scene.FOUR, "sureHonest(NONE)", 14, t -> {
+            allIsKnownOfFour(t);
+            return t.sureHonest(NONE);
+        });
         check.sentence("P19: no such viewer: below NONE, or too large");
         refusesNobody("sureHonest", (t, p) -> t.sureHonest(p));
     }
@@ -198,8 +203,12 @@ public final class BookEdgeTest {
         check.answers(Scene.FOUR, "witchSets(3)", 3, t -> t.witchSets(3));
         check.answers(Scene.FOUR, "witchSets(0)", 1, t -> t.witchSets(0));
         check.answers(Scene.SIX, "witchSets(NONE)", 15, t -> t.witchSets(NONE));
+        check.answers(Scene.NO_GAME, "witchSets(NONE) of eight, the most", 56, t -> {
+            t.start(8, 7, 3, 4);
+            return t.witchSets(NONE);
+        });
         check.answers(Scene.SIX, "witchSets(5)", 10, t -> t.witchSets(5));
-        check.sentence("P20: different sets: worlds with the same one count once, also after claims about seer and guard");
+        check.sentence("P20: different sets: worlds with the same one count once, also after a claim about the seer");
         check.answers(Scene.SIX, "witchSets(NONE)", 5 + 6, t -> {
             t.claim(5, WitchTrial.IS_SEER, 2);
             return t.witchSets(NONE);
@@ -306,7 +315,7 @@ public final class BookEdgeTest {
         check.sentence("P22: parted most evenly: one who is surely a witch, or surely none, is not it");
         check.answers(Scene.SECOND_DAY, "bestLook()", 1, t -> t.bestLook());
         check.answers(Scene.SEVEN_NIGHT, "bestLook()", 2, t -> t.bestLook());
-        check.sentence("P22: the greater number is least: of 6 pairs 1 is in three, 0 in four, 3 and 4 in two, 5 in one");
+        check.sentence("P22: the greater number is least: of 6 pairs 1 is in three, 0 in four, 3, 4 and 5 in fewer");
         check.answers(Scene.SIX, "bestLook()", 1, t -> {
             t.claimAmong(2, 1 | 2);
             t.claimAmong(2, 1 | 8 | 16);

@@ -280,10 +280,7 @@ public final class GameEdgeTest {
         check.sentence("P4: the player is dead, honest or a witch, though the claim is true");
         check.refuses(Scene.SECOND_DAY, "claim of 6", Check.ELEMENT, t -> t.claim(6, IS_WITCH, 0));
         check.refuses(Scene.SECOND_DAY, "claim of 2", Check.ELEMENT, t -> t.claim(2, IS_HONEST, 2));
-        WitchTrial t1 = Scene.SIX.make();
-        Check.hang(t1, 0);
-        t1.endNight();
-        check.refused(t1, "claim of a dead witch", Check.ELEMENT, () -> t1.claim(0, IS_WITCH, 0));
+        check.refuses(Scene.WITCH_DEAD, "claim(0, IS_WITCH, 0)", Check.ELEMENT, t -> t.claim(0, IS_WITCH, 0));
         check.sentence("P4: of several exceptions the one that is listed first");
         check.refuses(Scene.SIX, "no player, no kind", Check.INDEX, t -> t.claim(6, 4, 0));
         check.refuses(Scene.SIX, "no other, no kind", Check.INDEX, t -> t.claim(5, 4, -1));
@@ -317,10 +314,7 @@ public final class GameEdgeTest {
         check.answers(Scene.SIX, "all but 0 and 5", 60 + 120, t -> t.claimAmong(5, 30));
         check.refuses(Scene.SIX, "all the honest", Check.ELEMENT, t -> t.claimAmong(5, 60));
         check.sentence("P5: a set with dead players: a dead witch counts, a dead honest one does not");
-        WitchTrial t1 = Scene.SIX.make();
-        Check.hang(t1, 0);
-        t1.endNight();
-        check.equal("a dead witch", t1.claimAmong(5, 1), 60);
+        check.answers(Scene.WITCH_DEAD, "a dead witch", 60, t -> t.claimAmong(5, 1));
         check.refuses(Scene.SECOND_DAY, "the dead honest", Check.ELEMENT, t -> t.claimAmong(5, 64 | 4));
         check.answers(Scene.SECOND_DAY, "0 and the dead", true, t -> t.claimAmong(5, 64 | 4 | 1) == t.claimAmong(5, 1));
         check.sentence("P5: a witch claims what is not true");
@@ -353,6 +347,7 @@ public final class GameEdgeTest {
         check.sentence("P5: the player is dead");
         check.refuses(Scene.SECOND_DAY, "claimAmong of 6", Check.ELEMENT, t -> t.claimAmong(6, 1));
         check.refuses(Scene.SECOND_DAY, "claimAmong of 2", Check.ELEMENT, t -> t.claimAmong(2, 255));
+        check.refuses(Scene.WITCH_DEAD, "claimAmong of a witch", Check.ELEMENT, t -> t.claimAmong(0, 1));
         check.sentence("P5: of several exceptions the one that is listed first");
         check.refuses(Scene.SIX, "no player, no set", Check.INDEX, t -> t.claimAmong(-1, 64));
         check.refuses(Scene.FIRST_NIGHT, "no player, not day", Check.INDEX, t -> t.claimAmong(6, 1));
@@ -606,7 +601,17 @@ public final class GameEdgeTest {
                 check.answers(scene, "alive()", scene.alive, t -> t.alive());
             }
         }
-        check.sentence("P13: who is attacked is alive until the night ends, and who has votes until the vote is closed");
+        check.sentence("P13: the first and the last player are dead as all others are");
+        check.answers(Scene.SEVEN_NIGHT, "alive() without 0", 126, t -> {
+            t.attack(0);
+            t.endNight();
+            return t.alive();
+        });
+        check.answers(Scene.SEER_DEAD, "alive() without 3 and 7", 255 - 8 - 128, t -> {
+            t.endNight();
+            return t.alive();
+        });
+        check.sentence("P13: who is attacked lives until the night ends, and who has votes until the vote is closed");
         check.answers(Scene.SECOND_NIGHT, "alive()", 187, t -> t.alive());
         check.answers(Scene.SECOND_DAY, "alive()", 187, t -> t.alive());
     }

@@ -33,6 +33,12 @@ final class Scene {
         t.vote(5, 4);
     });
 
+    static final Scene WITCH_DEAD = new Scene("six by day, a witch dead", 6, 3, 2, 3, WitchTrial.DAY, 62, NONE, t -> {
+        t.start(6, 3, 2, 3);
+        Check.hang(t, 0);
+        t.endNight();
+    });
+
     static final Scene FIRST_NIGHT = new Scene("six by night", 6, 3, 2, 3, WitchTrial.NIGHT, 63, NONE, t -> {
         t.start(6, 3, 2, 3);
         t.closeVote();
@@ -111,8 +117,8 @@ final class Scene {
         t.look(6);
     });
 
-    static final List<Scene> ALL = List.of(NO_GAME, FOUR, SIX, EIGHT, SECOND_DAY, FIRST_NIGHT, SECOND_NIGHT, GUARD_DEAD,
-            SEER_DEAD, BOTH_DEAD, VILLAGE_WON, WON_BY_VOTE, WON_BY_ATTACK, SMALLER_GAME, SEVEN_NIGHT);
+    static final List<Scene> ALL = List.of(NO_GAME, FOUR, SIX, EIGHT, SECOND_DAY, WITCH_DEAD, FIRST_NIGHT, SECOND_NIGHT,
+            GUARD_DEAD, SEER_DEAD, BOTH_DEAD, VILLAGE_WON, WON_BY_VOTE, WON_BY_ATTACK, SMALLER_GAME, SEVEN_NIGHT);
 
     static final List<Scene> OVER = List.of(VILLAGE_WON, WON_BY_VOTE, WON_BY_ATTACK);
 

@@ -167,11 +167,17 @@ public final class TermsTest {
         check.sentence("Terms, P18: a witch knows all witches, living and dead, while it lives and when it is dead");
         WitchTrial t = new WitchTrial();
         t.start(8, 1 | 16 | 128, 2, 3);
-        Check.hang(t, 16 >> 2);
+        Check.hang(t, 4);
         for (int p : new int[] {0, 4, 7}) {
             check.equal("sureWitches(" + p + ")", t.sureWitches(p), 1 | 16 | 128);
             check.equal("worlds(" + p + ")", t.worlds(p), 5 * 4);
         }
+        check.sentence("Terms, P16: a witch knows also what all know, the roles of the dead");
+        WitchTrial dead = Check.eight();
+        check.equal("worlds(0) at first", dead.worlds(0), 5 * 4);
+        Check.hang(dead, 3);
+        check.equal("worlds(0) with the seer dead", dead.worlds(0), 4);
+        check.equal("worlds(3), the seer itself", dead.worlds(3), 35 * 4);
         check.sentence("Terms, P17: but not who is the seer or the guard");
         check.equal("worldsWith(0, 2, SEER)", t.worldsWith(0, 2, SEER), 4);
         check.sentence("Terms, P15, P16: the seer knows of whom it looked at whether it is a witch, and no more");
