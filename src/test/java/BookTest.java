@@ -243,8 +243,8 @@ public final class BookTest {
     }
 
     private static void noSuchPlayer() {
-        WitchTrial t = Check.six();
         for (int p : new int[] {-2, -33, 6, 7, 8, 31, 32, 64, Integer.MAX_VALUE, Integer.MIN_VALUE}) {
+            WitchTrial t = Check.six();
             String told = "(" + p + ")";
             check.refused(t, "worlds" + told, Check.INDEX, () -> t.worlds(p));
             check.refused(t, "sureWitches" + told, Check.INDEX, () -> t.sureWitches(p));
@@ -254,6 +254,7 @@ public final class BookTest {
             check.refused(t, "isPossible of viewer" + told, Check.INDEX, () -> t.isPossible(p, 3, 2, 3));
         }
         for (int p : Check.NO_PLAYERS) {
+            WitchTrial t = Check.six();
             check.refused(t, "worldsWith player " + p, Check.INDEX, () -> t.worldsWith(NONE, p, 0));
             check.refused(t, "isPossible of seer " + p, Check.INDEX, () -> t.isPossible(NONE, 3, p, 3));
             check.refused(t, "isPossible of guard " + p, Check.INDEX, () -> t.isPossible(NONE, 3, 2, p));

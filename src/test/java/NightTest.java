@@ -40,16 +40,15 @@ public final class NightTest {
     }
 
     private static void choicesAreForTheNight() {
-        WitchTrial t = Check.eight();
-        refusesAtOtherTimes(t);
-        t.start(4, 1, 1, 2);
+        refusesAtOtherTimes(Check.eight());
+        WitchTrial t = Scene.FOUR.make();
         Check.hang(t, 0);
         refusesAtOtherTimes(t);
-        t.start(4, 1, 1, 2);
-        Check.hang(t, 3);
-        t.attack(1);
-        t.endNight();
-        refusesAtOtherTimes(t);
+        WitchTrial u = Scene.FOUR.make();
+        Check.hang(u, 3);
+        u.attack(1);
+        u.endNight();
+        refusesAtOtherTimes(u);
     }
 
     private static void refusesAtOtherTimes(WitchTrial t) {
@@ -248,7 +247,7 @@ public final class NightTest {
 
     private static void days() {
         WitchTrial t = Check.six();
-        for (int day = 1; day <= 200; day++) {
+        for (int day = 1; day <= 120; day++) {
             check.equal("day() by day", t.day(), day);
             t.closeVote();
             check.equal("day() by night", t.day(), day);
@@ -258,7 +257,7 @@ public final class NightTest {
         t.endNight();
         Check.hang(t, 1);
         check.equal("phase()", t.phase(), WitchTrial.VILLAGE_WON);
-        check.equal("day() after the game", t.day(), 202);
+        check.equal("day() after the game", t.day(), 122);
         check.equal("alive() after the game", t.alive(), 60);
         t.start(6, 3, 2, 3);
         check.equal("day() of another game", t.day(), 1);

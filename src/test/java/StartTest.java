@@ -58,10 +58,12 @@ public final class StartTest {
         t.vote(4, 0);
         refusesStarts(t);
         check.equal("closeVote() after refused starts", t.closeVote(), 0);
-        t.protect(2);
-        t.attack(2);
-        refusesStarts(t);
-        check.equal("endNight() after refused starts", t.endNight(), WitchTrial.NONE);
+        WitchTrial u = Check.six();
+        u.closeVote();
+        u.protect(2);
+        u.attack(2);
+        refusesStarts(u);
+        check.equal("endNight() after refused starts", u.endNight(), WitchTrial.NONE);
     }
 
     private static void refusesStarts(WitchTrial t) {
@@ -96,6 +98,14 @@ public final class StartTest {
         check.equal("what is seen of it", Check.seen(t), Check.seen(Check.eight()));
         t.closeVote();
         check.equal("whom the guard protected in the game before does not count", t.protect(4), WitchTrial.NONE);
+        startInPlaceOfANight();
+    }
+
+    private static void startInPlaceOfANight() {
+        WitchTrial t = Check.eight();
+        Check.guard(t, 4);
+        t.closeVote();
+        t.protect(5);
         t.attack(6);
         t.look(1);
         check.equal("start in place of a game by night", t.start(8, 7, 3, 4), 1120);
